@@ -24,7 +24,7 @@ public final class FaceTest {
   public static void main(String[] args) throws IOException {
     face();
     nestedClasses();
-    source(Files.readString(Path.of(System.getProperty("pushedup.source"))));
+    source(Files.readString(Path.of(System.getProperty("pushedup.home"), "src/main/java/PushedUp.java")));
     Check.end("FaceTest");
   }
 
